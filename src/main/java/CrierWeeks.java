@@ -12,6 +12,7 @@ public final class CrierWeeks {
     private static final int TAPE = 120, PEOPLE = 5, SPEECHES = 6, KEPT_ACTS = 24, IMAGES = 2, TRACED = 16;
     private static final int MOST_PURSE = 99, MOST_BANKED = 99, MOST_LEFT = 99, MOST_HILL = 999, MOST_WEEK = 999;
     private static final int MOST_AHEAD = 60, MOST_PASSED = 30, MOST_ROW_WEEKS = 12, MOST_THRIFT = 60;
+    private static final int NEVER = 1000000;
     private static final int MOST_RATION = 60, MOST_PRICE = 9, MOST_INCOME = 20, MOST_LENGTH = 30;
 
     private static final int ANY_KIND = 0, NOTICE = 1, BIRTH = 2, STAMMER = 3, WHISPER = 4, ECHO = 5;
@@ -830,13 +831,18 @@ public final class CrierWeeks {
         /** How many WEEKS go by till a SPEECH that is not SAID CAN be, most at most; NONE. */
         int weeksTill(int s, int most) {
             int words = wordsOfLeft(s);
-            int cost = crowns(s);
-            for (int w = 0; w <= most; w++) {
-                if ((w == 0 ? left : town.ration) >= words && purseAhead(town.speakers[s], w) >= cost) {
-                    return w;
-                }
+            int lacking = crowns(s) - purses[town.speakers[s]];
+            int wait = left >= words && lacking <= 0 ? 0 : Math.max(1, weeksToEarn(s, lacking));
+            boolean everEnough = wait == 0 || town.ration >= words && crowns(s) <= MOST_PURSE;
+            return everEnough && wait <= most ? wait : NONE;
+        }
+
+        private int weeksToEarn(int s, int lacking) {
+            int income = town.incomes[town.speakers[s]];
+            if (lacking <= 0) {
+                return 0;
             }
-            return NONE;
+            return income > 0 ? (lacking + income - 1) / income : NEVER;
         }
 
         int understanders(int s) {

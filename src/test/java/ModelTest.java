@@ -124,7 +124,9 @@ public final class ModelTest {
             tell();
             for (int c = 0; c < CALLS && !failed; c++) {
                 int what = up(100);
-                if (what < 12) {
+                if (what < 3) {
+                    rowOfPrices();
+                } else if (what < 12) {
                     rowCall();
                 } else if (what < 45) {
                     act();
@@ -161,6 +163,24 @@ public final class ModelTest {
                 }
             }
             due("status", x.status(), m.status);
+        }
+
+        /** Rows that are as the calls want them, so that these get as far as their answers. */
+        void rowOfPrices() {
+            int r = up(8), lane = up(3), n = 1 + up(12), p = num(0, 4), s = num(0, 5);
+            boolean counts = up(4) == 0;
+            due("row " + r, x.row(r, lane, n), m.row(r, lane, n));
+            for (int i = 0; i < n; i++) {
+                int v = up(counts ? 20 : 200) == 0 ? up(12) : counts ? m.people.size() : 1 + up(9);
+                due("set " + r + " " + i + " " + v, x.set(r, i, v), m.set(r, i, v));
+            }
+            for (int k = 0; k < 4; k++) {
+                int i = up(n), weeks = 1 + up(n - i), w = pick(up(10), up(61)), what = up(2);
+                due("thrift " + p + " " + w + " " + i + " " + weeks, x.thrift(p, w, r, i, weeks), m.thrift(p, w, r, i, weeks));
+                due("who " + s + " " + what, x.who(s, what, r, i, weeks), m.who(s, what, r, i, weeks));
+                due("priced " + i + " " + weeks, x.priced(r, 0, r, i, weeks), m.priced(r, 0, r, i, weeks));
+                due("status", x.status(), m.status);
+            }
         }
 
         void act() {

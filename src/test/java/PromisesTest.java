@@ -240,9 +240,13 @@ public final class PromisesTest {
         due("price 10", x.price(10), BAD);
         due("bank 60", x.buy(2, 60), 60);
         due("bank 39", x.buy(2, 39), 99);
-        x.weeks(1);
-        x.price(1);
-        due("bank above 99", x.buy(2, 1), STATE);
+        CrierWeeks rich = told("c60,1;z99,20;n0,1,0;", 1);
+        rich.buy(0, 60);
+        rich.weeks(5);
+        due("bank 99", rich.buy(0, 39), 99);
+        due("there is more", rich.stand(0), 21);
+        due("bank above 99", rich.buy(0, 1), STATE);
+        due("the purse is full enough", rich.person(0, 0), 60);
         due("stand 5", x.stand(5), BAD);
         due("stand -1", x.stand(-1), BAD);
         due("said", x.stand(4), 1);
@@ -582,6 +586,14 @@ public final class PromisesTest {
         due("too dear", x.thrift(0, 12, 0, 0, 2), NONE);
         due("99 at most", x.thrift(2, 0, 0, 0, 4), 99);
         due("what is above 99 is better spent", x.thrift(2, 2, 0, 2, 2), 99);
+        due("the whole purse", x.thrift(1, 5, 0, 1, 1), 0);
+        due("an empty one", x.thrift(1, 6, 0, 1, 1), NONE);
+        x.row(3, 0, 12);
+        for (int i = 0; i < 12; i++) {
+            x.set(3, i, 9 - i % 9);
+        }
+        // 12 crowns and 22 more till the last week: 6 at 1 (week 9), 4 at 2 (week 8) cost 14.
+        due("12 weeks", x.thrift(0, 10, 3, 0, 12), 36 - 14);
         due("w 61", x.thrift(0, 61, 0, 0, 2), BAD);
         due("w -1", x.thrift(0, -1, 0, 0, 2), BAD);
         due("n 0", x.thrift(0, 0, 0, 0, 0), BAD);
