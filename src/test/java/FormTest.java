@@ -111,6 +111,11 @@ public final class FormTest {
         while (m.find()) {
             due("ruled out in the source", m.group(), "");
         }
+        for (String line : code.split("\n")) {
+            boolean makes = line.matches(".*\\bnew\\b.*");
+            boolean once = line.matches(" +(private )?final [\\w\\[\\]]+ \\w+ = new .*;| {8,}\\w+\\[\\w\\] = new \\w+\\(.*\\);");
+            due("objects are made in constructors alone: " + line.trim(), makes && !once, false);
+        }
         due("signs 1 to 127 alone", text.chars().allMatch(c -> c > 0 && c < 128), true);
         int begins = 0;
         String[] lines = text.split("\n");

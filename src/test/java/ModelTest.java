@@ -10,7 +10,8 @@ import java.util.Random;
  */
 public final class ModelTest {
     private static final int NONE = -1000000, BAD = -1000001, STATE = -1000002, FULL = -1000003;
-    private static final int RUNS = 1500, CALLS = 400;
+    /** An object is used for at most 512 calls. */
+    private static final int RUNS = 3000, CALLS = 512;
 
     public static void main(String[] args) {
         for (int run = 0; run < RUNS; run++) {
@@ -42,7 +43,7 @@ public final class ModelTest {
 
         void due(String call, long got, long want) {
             log.add(call + " = " + got);
-            if (got != want && !failed) {
+            if (got != want && !failed && log.size() <= CALLS) {
                 failed = true;
                 wrong++;
                 int from = Math.max(0, log.size() - 12);
@@ -122,7 +123,7 @@ public final class ModelTest {
 
         void go() {
             tell();
-            for (int c = 0; c < CALLS && !failed; c++) {
+            while (log.size() < CALLS && !failed) {
                 int what = up(100);
                 if (what < 3) {
                     rowOfPrices();

@@ -32,7 +32,7 @@ public final class RefusalsTest {
     }
 
     /** Said, bought, let out, at another price; two images, three rows, half a text, a trace, a status of 2. */
-    private static CrierWeeks full(String tape) {
+    private static CrierWeeks town() {
         CrierWeeks x = CHECK.told(TOWN);
         x.weeks(2);
         x.image(0);
@@ -49,17 +49,17 @@ public final class RefusalsTest {
         x.row(6, 1, 1);
         x.set(6, 0, 1);
         x.ask(1, 1);
-        Check.feed(x, tape);
+        Check.feed(x, "c9,9;z9,9;");
         x.set(0, 3, 0);
         return x;
     }
 
-    private static CrierWeeks town() {
-        return full("c9,9;z9,9;");
-    }
-
+    /** A text to its end, then signs that cannot stand there: what is on the tape is seen by the FAULT's place. */
     private static CrierWeeks fullTape() {
-        return full("#".repeat(120));
+        CrierWeeks x = CHECK.told(TOWN);
+        x.weeks(2);
+        Check.feed(x, TOWN + "#".repeat(120 - TOWN.length()));
+        return x;
     }
 
     private static CrierWeeks lateWeeks() {

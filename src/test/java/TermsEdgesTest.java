@@ -7,6 +7,7 @@ public final class TermsEdgesTest {
         "z50,0;z50,0;z50,0;z50,0;", "z50,0;z50,0;z50,0;z50,0;z50,0;"};
 
     public static void main(String[] args) {
+        fromNought();
         dividing();
         rows();
         words();
@@ -33,6 +34,24 @@ public final class TermsEdgesTest {
         terms();
         kindsAndAsks();
         CHECK.end();
+    }
+
+    private static void fromNought() {
+        CHECK.of("Numbers go from 0 on");
+        CrierWeeks x = CHECK.told("c9,1;z7,0;n0,3,0;");
+        CHECK.row(x, 0, 0, 4);
+        x.ask(0, 0);
+        int[] first = {x.person(0, 0), x.speech(0, 1), x.priced(0, 0, 0, 0, 1), x.trace(0), x.order(0), x.as(0, 0), x.image(0)};
+        int[] due = {7, 3, 16, 11, 0, 0, 1};
+        int[] below = {x.person(-1, 0), x.speech(-1, 1), x.priced(-1, 0, 0, 0, 1), x.trace(-1), x.order(-2), x.as(-1, 0), x.image(-1)};
+        for (int k = 0; k < due.length; k++) {
+            CHECK.due("number 0, " + k, first[k], due[k]);
+            CHECK.due("below it, " + k, below[k], k == 3 ? Check.NONE : Check.BAD);
+        }
+        CHECK.due("PEOPLE: no number 1", x.person(1, 0), Check.BAD);
+        CHECK.due("SPEECHES: no number 1", x.speech(1, 0), Check.BAD);
+        CHECK.due("ITEMS: no number 1", x.set(0, 1, 0), Check.PLACE);
+        CHECK.due("an ORDER: no number 1", x.order(1), Check.NONE);
     }
 
     private static void dividing() {
