@@ -33,6 +33,8 @@ public final class TermsEdgesTest {
         heard();
         terms();
         kindsAndAsks();
+        sixSpeeches();
+        fewerThanBefore();
         CHECK.end();
     }
 
@@ -888,6 +890,54 @@ public final class TermsEdgesTest {
         x.price(1);
         asked(x, 0, 0, 31, 11, 10, 21, 20);
         asked(x, 5, 1, 6, 21, 20);
+    }
+
+    private static void sixSpeeches() {
+        CHECK.of("SPEECHES 0 .. 5, 6 at most (all that goes through them, with 6 and 5 PEOPLE)");
+        CrierWeeks x = CHECK.told("c60,1;" + PEOPLE[5] + "n0,1,0;b1,3,0;s2,2,2;w3,1,0;e4,1,3;n4,5,5;");
+        shares(x, 12, 1, 2, 4, 0, 5);
+        mostIs("all six", x, 63, 12, 2);
+        orderIs("all six", x, 0, 0, 1, 2, 3, 4, 5);
+        CHECK.due("drawn", x.drawn(60, 1, 0), 63);
+        for (int s = 0; s < 6; s++) {
+            CHECK.due("can " + s, x.speech(s, 5), 1);
+            CHECK.due("said", x.say(s) >= 0 ? 1 : 0, 1);
+        }
+        CHECK.due("SAID", x.stand(4), 63);
+        int[] known = {63 - 8, 63 - 8 - 16, 63 - 16, 63, 63};
+        int[] understood = {63 - 8 - 16, 63 - 8 - 16, 63 - 16, 63, 63};
+        for (int p = 0; p < 5; p++) {
+            CHECK.due("KNOWN to " + p, x.person(p, 3), known[p]);
+            CHECK.due("UNDERSTOOD by " + p, x.person(p, 4), understood[p]);
+        }
+        CHECK.due("CLEAR", x.clear(), 63 - 8 - 16);
+        shares(x, 12, 0, 0, 0, 0, 0);
+        x.weeks(1);
+        CHECK.due("CLEAR behind a WEEK", x.clear(), 63);
+        CHECK.due("KNOWN behind a WEEK", x.person(1, 3), 63);
+    }
+
+    private static void fewerThanBefore() {
+        CHECK.of("A DUCHY that is read stands in place of the one before (of its SPEECHES and PEOPLE none is left)");
+        CrierWeeks x = CHECK.told("c60,1;" + PEOPLE[5] + "n0,1,0;b1,3,0;s2,2,2;w3,1,0;e4,1,3;n0,5,5;");
+        x.buy(1, 7);
+        for (int s = 0; s < 6; s++) {
+            x.say(s);
+        }
+        CHECK.due("read", Check.read(x, "c10,1;z20,0;z20,0;n1,4,0;"), 1);
+        shares(x, 9, 0, 9);
+        mostIs("one", x, 1, 4, 2);
+        orderIs("one", x, 0, 0);
+        CHECK.due("KNOWN", x.person(0, 3), 0);
+        CHECK.due("CLEAR", x.clear(), 0);
+        CHECK.due("drawn", x.drawn(60, 1, 0), 1);
+        CHECK.due("say", x.say(0), 4);
+        CHECK.due("KNOWN to two", x.speech(0, 6), 3);
+        CHECK.due("CLEAR", x.clear(), 1);
+        CHECK.due("UNDERSTOOD", x.person(1, 4), 1);
+        shares(x, 9, 0, 0);
+        mostIs("none", x, 0, 0, 2);
+        orderIs("none", x, 0);
     }
 
     /** What is due, then THE TRACE. */
