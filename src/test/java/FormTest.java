@@ -1,11 +1,16 @@
 import java.io.IOException;
+import java.lang.reflect.Array;
 import java.lang.reflect.Constructor;
 import java.lang.reflect.Field;
 import java.lang.reflect.Method;
 import java.lang.reflect.Modifier;
 import java.nio.file.Files;
 import java.nio.file.Path;
+import java.util.Arrays;
+import java.util.HashMap;
 import java.util.HashSet;
+import java.util.IdentityHashMap;
+import java.util.Map;
 import java.util.Set;
 import java.util.TreeSet;
 import java.util.regex.Matcher;
@@ -25,11 +30,13 @@ public final class FormTest {
         "int trace(int)", "int count(int)", "int status()"};
     private static int wrong;
 
-    public static void main(String[] args) throws IOException {
+    public static void main(String[] args) throws IOException, ReflectiveOperationException {
         methods();
         constants();
         inside();
         source();
+        depth();
+        room();
         System.out.println(wrong == 0 ? "form: as due" : "form: " + wrong + " wrong");
         if (wrong != 0) {
             System.exit(1);
@@ -127,5 +134,99 @@ public final class FormTest {
                 due("sixty lines at most, line " + (begins + 1), i - begins <= 60, true);
             }
         }
+    }
+
+    /** Rule 11: calls that are no recursion go at most eight deep; methods of one name are taken as one. */
+    private static void depth() throws IOException {
+        String text = Files.readString(Path.of("src/main/java/CrierWeeks.java"));
+        Pattern begins = Pattern.compile(" {4}(?: {4})?(?:(?:public|private|static|final) )*[\\w\\[\\]]+ (\\w+)\\(.*\\) \\{");
+        Map<String, StringBuilder> bodies = new HashMap<>();
+        String name = "";
+        for (String line : text.split("\n")) {
+            Matcher m = begins.matcher(line);
+            if (m.matches()) {
+                name = m.group(1);
+                bodies.putIfAbsent(name, new StringBuilder());
+            } else if (!name.isEmpty()) {
+                bodies.get(name).append(line).append('\n');
+            }
+        }
+        due("all methods are seen", bodies.keySet().containsAll(Set.of("duchy", "isFigure", "goOn", "heard", "put")), true);
+        int deepest = 0;
+        for (String from : bodies.keySet()) {
+            deepest = Math.max(deepest, deepestFrom(from, bodies, new HashSet<>()));
+        }
+        due("eight deep at most, " + deepest, deepest <= 8, true);
+        due("calls are seen, " + deepest, deepest > 4, true);
+    }
+
+    private static int deepestFrom(String from, Map<String, StringBuilder> bodies, Set<String> open) {
+        open.add(from);
+        int below = 0;
+        Matcher m = Pattern.compile("\\b(\\w+)\\(").matcher(bodies.get(from));
+        while (m.find()) {
+            if (bodies.containsKey(m.group(1)) && !open.contains(m.group(1))) {
+                below = Math.max(below, deepestFrom(m.group(1), bodies, open));
+            }
+        }
+        open.remove(from);
+        return below + 1;
+    }
+
+    /** All calls of one run live in one room: an object is small, and no call makes another. */
+    private static void room() throws ReflectiveOperationException {
+        CrierWeeks x = new CrierWeeks();
+        Map<Object, Object> at = new IdentityHashMap<>();
+        int elements = reach(x, at);
+        due("objects as README.md tells, " + at.size(), at.size(), 201);
+        due("2000 fields and elements at most, " + elements, elements <= 2000, true);
+        for (char c : "c20,2;z40,3;z9,1;n0,9,0;w1,4,0;".toCharArray()) {
+            x.feed(c);
+        }
+        x.duchy();
+        everyCall(x);
+        Map<Object, Object> then = new IdentityHashMap<>();
+        due("as many elements behind every call", reach(x, then), elements);
+        due("the same objects behind every call", at.keySet().containsAll(then.keySet()) && at.size() == then.size(), true);
+    }
+
+    private static void everyCall(CrierWeeks x) throws ReflectiveOperationException {
+        for (Method m : CrierWeeks.class.getDeclaredMethods()) {
+            if (Modifier.isPublic(m.getModifiers())) {
+                for (int v = 0; v < 3; v++) {
+                    Object[] values = new Object[m.getParameterCount()];
+                    Arrays.fill(values, v);
+                    m.invoke(x, values);
+                }
+            }
+        }
+    }
+
+    /** Fields and elements of all that can be reached from one. */
+    private static int reach(Object one, Map<Object, Object> seen) throws ReflectiveOperationException {
+        if (one == null || seen.put(one, one) != null) {
+            return 0;
+        }
+        int elements = 0;
+        if (one.getClass().isArray()) {
+            return Array.getLength(one) + reachItems(one, seen);
+        }
+        for (Field f : one.getClass().getDeclaredFields()) {
+            if (!Modifier.isStatic(f.getModifiers())) {
+                f.setAccessible(true);
+                elements += 1 + (f.getType().isPrimitive() ? 0 : reach(f.get(one), seen));
+            }
+        }
+        return elements;
+    }
+
+    private static int reachItems(Object array, Map<Object, Object> seen) throws ReflectiveOperationException {
+        int elements = 0;
+        if (!array.getClass().getComponentType().isPrimitive()) {
+            for (int i = 0; i < Array.getLength(array); i++) {
+                elements += reach(Array.get(array, i), seen);
+            }
+        }
+        return elements;
     }
 }
